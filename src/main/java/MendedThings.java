@@ -91,26 +91,41 @@ public final class MendedThings {
     private static final int BYTES_A_THING = 5;
     private static final int MOST_IMAGE = 43;
 
-    private final Tape tape = new Tape();
-    private final Reader reader = new Reader(tape);
-    private final Reckoner reckoner = new Reckoner();
-    private final Mending mending = new Mending(reckoner);
-    private final Plans plans = new Plans(mending);
-    private final Rules asked = new Rules();
-    private final State now = new State();
-    private final State spareState = new State();
-    private final Past past = new Past();
-    private final int[] picture = new int[MOST_IMAGE];
-    private final int[] refusals = new int[6];
-    private Island spareIsland = new Island();
-    private int pictureSize = 0;
-    private long seedNow = 1;
-    private int faultKind = 0;
-    private int faultPlace = NONE;
+    private final Tape tape;
+    private final Reader reader;
+    private final Reckoner reckoner;
+    private final Mending mending;
+    private final Plans plans;
+    private final Rules asked;
+    private final State now;
+    private final State spareState;
+    private final Past past;
+    private final int[] picture;
+    private final int[] refusals;
+    private Island spareIsland;
+    private int pictureSize;
+    private long seedNow;
+    private int faultKind;
+    private int faultPlace;
 
     public MendedThings() {
-        now.land = new Island();
-        now.land.addDefaults();
+        Island none = new Island();
+        tape = new Tape();
+        asked = new Rules();
+        spareIsland = new Island();
+        reader = new Reader(tape, spareIsland);
+        reckoner = new Reckoner();
+        mending = new Mending(reckoner);
+        plans = new Plans(mending);
+        now = new State(none);
+        spareState = new State(none);
+        past = new Past(none);
+        picture = new int[MOST_IMAGE];
+        refusals = new int[6];
+        pictureSize = 0;
+        seedNow = 1;
+        faultKind = 0;
+        faultPlace = NONE;
     }
 
     public int feed(int a, int b, int c, int d, int e) {
@@ -324,27 +339,21 @@ public final class MendedThings {
 
     public int see(int thing) {
         int seen = tape.seenDays();
+        int last = tape.lastByte();
         tape.size = 0;
-        int last = 31 - Integer.numberOfLeadingZeros(seen);
         if (seen == 0 || !isThing(thing) || now.day + last > LAST_DAY) {
             return refuse(1);
         }
-        int can = 0;
-        for (int frail = 0; frail < FRAILS; frail++) {
-            spareState.copyFrom(now);
-            spareState.frail[thing] = frail;
-            if (mending.breakingDays(spareState, thing, last) == seen) {
-                can |= 1 << frail;
-            }
-        }
-        return can;
+        plans.tryFrails(now, spareState, thing, last);
+        return plans.frailsThatBreak(seen);
     }
 
     public int tells(int thing, int what) {
         if (!isThing(thing) || now.day + LAST_SEEN_DAY > LAST_DAY || what < 0 || what > 1) {
             return NONE;
         }
-        plans.findTelling(now, spareState, thing);
+        plans.tryFrails(now, spareState, thing, LAST_SEEN_DAY);
+        plans.findTelling();
         return what == 0 ? plans.tellingDay : plans.tellingLeft;
     }
 
@@ -618,6 +627,10 @@ public final class MendedThings {
             }
         }
 
+        int lastByte() {
+            return size > 0 ? bytes[size - 1] : 0;
+        }
+
         /** The days told as seen, day d as bit d; 0 when the tape tells no such days. */
         int seenDays() {
             if (size > MOST_SEEN) {
@@ -762,8 +775,8 @@ public final class MendedThings {
         private static final int STUCK = 4;
 
         private final Tape tape;
-        private Island land = null;
-        private Rules out = null;
+        private Island land;
+        private Rules out;
         private int parts = PLAIN_PARTS;
         private int kind = END;
         private int start = 0;
@@ -775,8 +788,10 @@ public final class MendedThings {
         int faultKind = 0;
         int faultPlace = NONE;
 
-        Reader(Tape tape) {
+        Reader(Tape tape, Island land) {
             this.tape = tape;
+            this.land = land;
+            this.out = land.rules;
         }
 
         boolean readIsland(Island into) {
@@ -1212,9 +1227,13 @@ public final class MendedThings {
         final int[] noteDay = new int[MOST_KEPT];
         final int[] noteThing = new int[MOST_KEPT];
         final int[] noteWhat = new int[MOST_KEPT];
-        Island land = null;
+        Island land;
         int day = 0;
         int notes = 0;
+
+        State(Island land) {
+            this.land = land;
+        }
 
         void settle(Island told) {
             land = told;
@@ -1302,9 +1321,9 @@ public final class MendedThings {
         private int next = 0;
         int count = 0;
 
-        Past() {
+        Past(Island land) {
             for (int k = 0; k < MOST_UNDONE; k++) {
-                states[k] = new State();
+                states[k] = new State(land);
             }
         }
 
@@ -1405,7 +1424,8 @@ public final class MendedThings {
                 case SIGN_STEP + '/': return b == 0 ? 0 : Math.floorDiv(a, b);
                 case SIGN_STEP + '+': return within(-LIMIT, (long) a + b, LIMIT);
                 case SIGN_STEP + '-': return within(-LIMIT, (long) a - b, LIMIT);
-                default: return within(-LIMIT, (long) a * b, LIMIT);
+                case SIGN_STEP + '*': return within(-LIMIT, (long) a * b, LIMIT);
+                default: return 0;
             }
         }
 
@@ -1534,21 +1554,11 @@ public final class MendedThings {
             }
             return NONE;
         }
-
-        /** Lives days in the state; those in which the thing breaks, the first one as bit 1. */
-        int breakingDays(State state, int thing, int days) {
-            int set = 0;
-            for (int k = 1; k <= days; k++) {
-                set |= (liveDay(state) >> thing & 1) << k;
-            }
-            return set;
-        }
     }
 
     /** What is best to break, to mend, to try, to look at. */
     private static final class Plans {
         private final Mending mending;
-        private final int[] useStruck = new int[MOST_THINGS];
         private final int[] order = new int[MOST_BROKEN_IN_ROW];
         private final int[] hours = new int[MOST_THINGS];
         private final int[] marks = new int[MOST_THINGS];
@@ -1567,7 +1577,7 @@ public final class MendedThings {
             Island land = now.land;
             int standing = mending.standing(now);
             int broken = now.thingsThatAre(BROKEN);
-            int gets = useIfStruck(now, trying);
+            int gets = standingIfStruck(now, trying);
             int found = NONE;
             for (int set = 0; set < 1 << land.things; set++) {
                 int stands = standing & ~set | gets & set;
@@ -1589,7 +1599,7 @@ public final class MendedThings {
         }
 
         /** The things that stand once they are struck and mended, as bits: no thing looks at another. */
-        private int useIfStruck(State now, State trying) {
+        private int standingIfStruck(State now, State trying) {
             trying.copyFrom(now);
             for (int t = 0; t < now.land.things; t++) {
                 if (now.what[t] != BROKEN) {
@@ -1635,15 +1645,15 @@ public final class MendedThings {
         /** Makes the next order by numbers; false when there is none. */
         private boolean nextOrder(int count) {
             int at = count - 2;
-            for (; at >= 0 && order[at] > order[at + 1]; at--) {
-                continue;
+            while (at >= 0 && order[at] > order[at + 1]) {
+                at--;
             }
             if (at < 0) {
                 return false;
             }
             int with = count - 1;
-            for (; with > at + 1 && order[with] < order[at]; with--) {
-                continue;
+            while (with > at + 1 && order[with] < order[at]) {
+                with--;
             }
             swap(at, with);
             for (int low = at + 1, high = count - 1; low < high; low++, high--) {
@@ -1685,19 +1695,35 @@ public final class MendedThings {
             return true;
         }
 
-        void findTelling(State now, State trying, int thing) {
+        /** Finds for each number that a thing's frail can be the days in which it breaks then, the first as bit 1. */
+        void tryFrails(State now, State trying, int thing, int days) {
             for (int frail = 0; frail < FRAILS; frail++) {
                 trying.copyFrom(now);
                 trying.frail[thing] = frail;
-                breaking[frail] = mending.breakingDays(trying, thing, LAST_SEEN_DAY);
+                breaking[frail] = 0;
+                for (int day = 1; day <= days; day++) {
+                    breaking[frail] |= (mending.liveDay(trying) >> thing & 1) << day;
+                }
             }
+        }
+
+        /** Of the numbers just tried, those that break in just these days, as bits. */
+        int frailsThatBreak(int seen) {
+            int set = 0;
+            for (int frail = 0; frail < FRAILS; frail++) {
+                set |= breaking[frail] == seen ? 1 << frail : 0;
+            }
+            return set;
+        }
+
+        void findTelling() {
             tellingLeft = FRAILS + 1;
             for (int day = 1; day <= LAST_SEEN_DAY; day++) {
-                int breaks = 0;
+                int broken = 0;
                 for (int frail = 0; frail < FRAILS; frail++) {
-                    breaks += breaking[frail] >> day & 1;
+                    broken += breaking[frail] >> day & 1;
                 }
-                int left = Math.max(breaks, FRAILS - breaks);
+                int left = Math.max(broken, FRAILS - broken);
                 if (left < tellingLeft) {
                     tellingLeft = left;
                     tellingDay = day;
