@@ -14,6 +14,8 @@ public final class PromisesTest {
         end();
         island();
         islandKeepsAllWithAFault();
+        islandAfterIsland();
+        longTexts();
         fault();
         has();
         letter();
@@ -165,6 +167,50 @@ public final class PromisesTest {
         due("kept", x.has(9), 2);
         due("its name", x.letter(0, 1, 0), 10);
         due("its rules", x.trial(1, 1), 1);
+    }
+
+    /** Nothing of an island, told or lived, is left in a later one. */
+    private static void islandAfterIsland() {
+        MendedThings x = new MendedThings();
+        String rules = "stands glue > 40;falls day = 0;takes 9;fine 33;first worth;cat 100;trial r is all;";
+        for (int k = 0; k < 6; k++) {
+            due("told", Kit.island(x, TWO + rules), 13);
+            x.strike(0);
+            x.forge(1);
+            x.mend(0, 0);
+            due("faulty", Kit.island(x, TWO + rules + "cat"), NONE);
+            due("its glue", x.thing(0, 6), 33);
+            due("its trials", x.has(2), 3);
+            due("plain", Kit.island(x, "thing a worth 1 use 2 frail 3;thing b worth 1 use 1 frail 1;mender m skill 7 hours 8;"), 3);
+            for (int what = 3; what < 9; what++) {
+                due("thing " + what, x.thing(0, what), 0);
+                due("thing " + what, x.thing(1, what), 0);
+            }
+            due("no trials", x.has(2), 0);
+            due("no falls", x.later(5, 3), 0);
+            due("takes", x.takes(0, 0), 4);
+            due("fine", x.fine(0, 0), 7);
+            due("no cat", x.chance(50), 0);
+            x.strike(1);
+            x.strike(0);
+            x.days(1);
+            due("first is use", x.kept(2, 1), 0);
+            due("stands", x.has(8), 3);
+        }
+        due("refused", x.status(1), 6);
+    }
+
+    /** Texts that fill the tape, and many of them. */
+    private static void longTexts() {
+        MendedThings x = Kit.of("thing a worth 1 use 2 frail 3;");
+        for (int k = 0; k < 8; k++) {
+            due("a question of 1600 bytes", Kit.ask(x, "total " + "1+".repeat(796) + "1 "), 797);
+            due("and a test", Kit.ask(x, "often " + "[1=1]or ".repeat(198) + "all" + " ".repeat(7)), 1);
+        }
+        x = Kit.of("takes " + "1+".repeat(750) + "1;thing a worth 1 use 2 frail 3;mender m skill 3 hours 4;");
+        due("a long sum", x.takes(0, 0), 99);
+        due("stands as without", x.strike(0) && x.mend(0, 0) == 3 && x.has(8) == 2, true);
+        due("1600 bytes", Kit.island(x, "fine " + "skill-1-".repeat(198) + "skill;" + " ".repeat(5)), 1);
     }
 
     /** Promise 5; the faults themselves are in FaultsTest. */
@@ -435,6 +481,7 @@ public final class PromisesTest {
         due("11", x.house(11, 1), 15);
         due("12", x.house(12, 0), NONE);
         due("999", x.house(999, 0), NONE);
+        due("as much as can be", hugeHouse().house(792, 0), 255);
         due("1000", x.house(1000, 0), NONE);
         due("-1", x.house(-1, 0), NONE);
         due("what 2", x.house(0, 2), NONE);
@@ -448,6 +495,14 @@ public final class PromisesTest {
         fewest();
         byTheFirstMender();
         due("without menders", Kit.of("thing a worth 5 use 3 frail 1;").house(0, 0), NONE);
+    }
+
+    private static MendedThings hugeHouse() {
+        StringBuilder text = new StringBuilder("mender m skill 1 hours 24;");
+        for (char c = 'a'; c < 'i'; c++) {
+            text.append("thing x").append(c).append(" worth 99 use 99 frail 1;");
+        }
+        return Kit.of(text.toString());
     }
 
     private static void fewest() {
@@ -575,12 +630,18 @@ public final class PromisesTest {
         due("wronged", x.lawed(1, 1), 9);
         due("twice", x.lawed(2, 0), 8);
         due("wronged either way", x.lawed(2, 1), 10);
+        x.undo();
+        x.strike(0);
+        x.mend(0, 0);
+        x.strike(0);
+        x.mend(0, 0);
+        due("just twice", x.lawed(2, 0), 9);
         due("no law", x.lawed(3, 0), NONE);
         due("no law", x.lawed(-1, 0), NONE);
         due("no what", x.lawed(0, 2), NONE);
         due("no what", x.lawed(0, -1), NONE);
         x.strike(3);
-        due("broken does not stand", x.lawed(2, 0), 0);
+        due("broken does not stand", x.lawed(2, 0), 1);
     }
 
     /** Promise 21. */
@@ -861,6 +922,20 @@ public final class PromisesTest {
         due("1", x.has(9), 1);
         due("a", x.kept(0, 1), 0);
         due("day 0", x.kept(0, 0), 0);
+        due("broke", x.kept(0, 2), 0);
+        x.mend(0, 0);
+        x.strike(0);
+        x.undo();
+        due("mended", x.kept(1, 2), 1);
+        x.undo();
+        due("not mended", x.thing(0, 5), 0);
+        x.undo();
+        x.forge(0);
+        x.strike(0);
+        x.undo();
+        due("forged again", x.thing(0, 7), 1);
+        x.undo();
+        due("not forged", x.thing(0, 7), 0);
     }
 
     private static void seedStays() {
@@ -1000,6 +1075,12 @@ public final class PromisesTest {
         due("all stays", x.thing(0, 3), 1);
         due("all stays", x.has(10), 1);
         due("all stays", x.has(9), 1);
+        due("each in its place", Kit.on(x, Kit.sealed(2, 1, 1, 2, 3, 4, 0)), true);
+        int[] each = {1, 2, 3, 4, 0};
+        for (int k = 0; k < 5; k++) {
+            due("each in its place", x.thing(0, k + 3), each[k]);
+        }
+        due("the day", x.has(3), 513);
         due("not forged, mended", Kit.on(x, Kit.sealed(0, 0, 2, 0, 0, 0, 0)), true);
         due("whole with glue", Kit.on(x, Kit.sealed(0, 0, 0, 1, 1, 1, 0)), true);
     }
