@@ -526,6 +526,8 @@ public final class PromisesTest {
         x.forge(1);
         due("forged stands by its glue", x.house(7, 0), 0);
         due("no more", x.house(8, 0), NONE);
+        x = Kit.of("thing a worth 2 use 2 frail 1;mender m skill 3 hours 1;fine skill - breaks;stands glue > 2;");
+        due("3 - 1 is too coarse", x.house(1, 0), NONE);
     }
 
     /** Promise 17. */
@@ -560,6 +562,7 @@ public final class PromisesTest {
         due("third", x.row(2), 0);
         due("no fourth", x.row(3), NONE);
         due("no such k", x.row(-2), NONE);
+        rowOfSix();
         x = eight();
         for (int t = 7; t >= 2; t--) {
             x.strike(t);
@@ -574,6 +577,21 @@ public final class PromisesTest {
         x = Kit.of("thing a worth 9 use 1 frail 1;");
         x.strike(0);
         due("without menders", x.row(NONE), NONE);
+    }
+
+    /** Worth is how long one takes; by use for an hour the order is d, b, f, a, e, c. */
+    private static void rowOfSix() {
+        MendedThings x = Kit.of("thing a worth 4 use 12 frail 1;thing b worth 2 use 14 frail 1;thing c worth 9 use 1 frail 1;"
+            + "thing d worth 1 use 20 frail 1;thing e worth 5 use 10 frail 1;thing f worth 3 use 12 frail 1;"
+            + "mender m skill 0 hours 1;takes worth;");
+        for (int t = 0; t < 6; t++) {
+            x.strike(t);
+        }
+        int[] want = {3, 1, 5, 0, 4, 2};
+        for (int k = 0; k < 6; k++) {
+            due("six, place " + k, x.row(k), want[k]);
+        }
+        due("six", x.row(NONE), 20 + 14 * 3 + 12 * 6 + 12 * 10 + 10 * 15 + 24);
     }
 
     private static MendedThings eight() {
@@ -601,6 +619,13 @@ public final class PromisesTest {
         x.mend(2, 0);
         x.forge(1);
         due("both are needed", x.parts(), 3);
+        x = Kit.of(things + "trial p is use > 1;trial q is use > 2;trial r is use = 2;");
+        x.strike(0);
+        x.mend(0, 0);
+        x.strike(2);
+        x.mend(2, 0);
+        x.forge(1);
+        due("one is fewer than two", x.parts(), 4);
         x = Kit.of(things + "trial p is use > 2;trial q is use = 9;");
         x.forge(0);
         x.strike(1);
