@@ -389,7 +389,7 @@ public final class MendedThings {
     }
 
     public int days(int n) {
-        if (n < 1 || n > MOST_DAYS) {
+        if (!canCome(n)) {
             return refuse(3);
         }
         past.push(now);
@@ -401,7 +401,7 @@ public final class MendedThings {
     }
 
     public int chance(int n) {
-        if (n < 1 || n > MOST_DAYS) {
+        if (!canCome(n)) {
             return refuse(3);
         }
         past.push(now);
@@ -497,6 +497,11 @@ public final class MendedThings {
 
     private boolean isTrial(int trial) {
         return trial >= 0 && trial < now.land.trials;
+    }
+
+    /** Whether so many days can come: none comes beyond the last day. */
+    private boolean canCome(int days) {
+        return days >= 1 && days <= MOST_DAYS && now.day + days <= LAST_DAY;
     }
 
     /** How many days ahead can be told. */
@@ -1487,7 +1492,7 @@ public final class MendedThings {
             state.note(thing, mender + 1);
         }
 
-        /** One day goes by; the things that broke in it, as bits. */
+        /** One day goes by; the things that broke in it, as bits. That it is not beyond the last day is for the caller to see to. */
         int liveDay(State state) {
             int falling = falling(state);
             for (int t = 0; t < state.land.things; t++) {
@@ -1505,7 +1510,7 @@ public final class MendedThings {
                 left[mender] -= need[thing * MOST_MENDERS + mender];
                 mendThing(state, thing, mender);
             }
-            state.day = Math.min(LAST_DAY, state.day + 1);
+            state.day++;
             return falling;
         }
 

@@ -151,7 +151,7 @@ final class Model {
                 left[bestMender] -= hours(bestThing, bestMender);
                 heal(bestThing, bestMender);
             }
-            day = Math.min(999, day + 1);
+            day++;
             return fallen;
         }
 
@@ -841,7 +841,7 @@ final class Model {
     }
 
     public int days(int n) {
-        if (n < 1 || n > 100) {
+        if (n < 1 || n > 100 || now.day > 999 - n) {
             return refuse(3);
         }
         act();
@@ -858,7 +858,7 @@ final class Model {
     }
 
     public int chance(int n) {
-        if (n < 1 || n > 100) {
+        if (n < 1 || n > 100 || now.day > 999 - n) {
             return refuse(3);
         }
         act();

@@ -40,6 +40,7 @@ public final class PromisesTest {
         days();
         daysByRank();
         daysAtTheLastDay();
+        noDrawBeyondTheLastDay();
         chance();
         undo();
         seed();
@@ -831,19 +832,58 @@ public final class PromisesTest {
         due("a day mends what it broke", x.days(5), 9);
     }
 
-    /** The DAY is 999 at most, as the numbers are 99 at most: the days go by all the same. */
+    /** Promises 26, 27: no DAY comes beyond 999; what is refused changes nothing but the count. */
     private static void daysAtTheLastDay() {
-        MendedThings x = Kit.of("thing a worth 1 use 1 frail 1;mender m skill 1 hours 4;falls day = 999;");
+        MendedThings x = Kit.of("thing a worth 1 use 1 frail 1;mender m skill 1 hours 4;falls day > 997;cat 100;");
         Kit.on(x, Kit.sealed(3, 230, 0, 0, 0, 0, 0));
         due("998", x.has(3), 998);
-        due("to 999", x.days(1), 0);
+        due("two are too many", x.days(2), NONE);
+        due("by the seed, too", x.chance(2), NONE);
+        due("a hundred", x.days(100), NONE);
+        due("no number at all", x.days(Integer.MAX_VALUE), NONE);
+        due("no number at all", x.chance(Integer.MAX_VALUE), NONE);
+        due("refused", x.status(3), 5);
+        due("the day stays", x.has(3), 998);
+        due("nothing broke", x.thing(0, 4), 0);
+        due("nothing kept", x.has(9), 0);
+        due("no act", x.has(10), 0);
+        due("to 999", x.days(1), 1);
         due("999", x.has(3), 999);
-        due("at 999", x.days(2), 2);
+        due("at 999", x.days(1), NONE);
+        due("at 999", x.chance(1), NONE);
+        due("refused", x.status(3), 7);
+        due("broke once", x.thing(0, 4), 1);
+        due("kept twice", x.has(9), 2);
+        due("undone", x.undo(), true);
+        due("by the seed to 999", x.chance(1), 1);
         due("999", x.has(3), 999);
-        due("kept", x.kept(3, 0), 999);
-        due("by the seed", x.chance(100), 0);
+        due("other acts are free", x.strike(0), true);
+        due("on its day", x.kept(x.has(9) - 1, 0), 999);
+        Kit.on(x, Kit.sealed(3, 131, 0, 0, 0, 0, 0));
+        due("899", x.has(3), 899);
+        due("a hundred to 999", x.days(100), 1);
         due("999", x.has(3), 999);
-        due("broke", x.thing(0, 4), 99);
+        x.undo();
+        x.days(1);
+        due("a hundred from 900", x.days(100), NONE);
+        due("99 from 900", x.chance(99), 99);
+    }
+
+    /** Promise 27: a refused call makes no DRAW. */
+    private static void noDrawBeyondTheLastDay() {
+        String text = "thing a worth 1 use 1 frail 1;thing b worth 1 use 1 frail 1;thing c worth 1 use 1 frail 1;cat 100;";
+        for (int seed = 0; seed < 20; seed++) {
+            MendedThings x = Kit.of(text);
+            x.seed(seed);
+            Kit.on(x, Kit.sealed(3, 231, 0, 0, 0, 0, 0, 0, 0, 0, 0, 0, 0, 0, 0, 0, 0));
+            due("at 999", x.chance(1), NONE);
+            Kit.island(x, text);
+            x.chance(1);
+            MendedThings y = Kit.of(text);
+            y.seed(seed);
+            y.chance(1);
+            due("the seed stayed", x.later(0, 1), y.later(0, 1));
+        }
     }
 
     /** Promise 27. */
