@@ -16,32 +16,15 @@ public final class FaultsTest {
     }
 
     private static void whole(String text, int statements) {
-        MendedThings x = new MendedThings();
-        Kit.due(text, Kit.island(x, text), statements);
-        Kit.due(text + " fault " + x.fault(1), x.fault(0), 0);
+        Kit.whole(text, statements);
     }
 
-    private static void fault(String text, int kind, int place) {
-        MendedThings x = new MendedThings();
-        Kit.due(text, Kit.island(x, text), MendedThings.NONE);
-        Kit.due(text + " kind", x.fault(0), kind);
-        Kit.due(text + " place", x.fault(1), place);
-    }
-
-    private static void asked(String text, int kind, int place) {
-        MendedThings x = new MendedThings();
-        Kit.due(text, Kit.ask(x, text) == MendedThings.NOTHING, kind != 0);
-        Kit.due(text + " kind", x.fault(0), kind);
-        Kit.due(text + " place", x.fault(1), place);
-    }
-
-    /** The fault at the mark ^, which is taken out of the text. */
     private static void at(String marked, int kind) {
-        fault(marked.replace("^", ""), kind, marked.indexOf('^'));
+        Kit.faultAt(marked, kind);
     }
 
     private static void askedAt(String marked, int kind) {
-        asked(marked.replace("^", ""), kind, marked.indexOf('^'));
+        Kit.askFaultAt(marked, kind);
     }
 
     private static void wholeTexts() {
@@ -234,8 +217,8 @@ public final class FaultsTest {
     }
 
     private static void questions() {
-        asked("", 1, 0);
-        asked("  ", 1, 2);
+        askedAt("^", 1);
+        askedAt("  ^", 1);
         askedAt("^;", 1);
         askedAt("^thing", 1);
         askedAt("^firs all", 1);
@@ -256,24 +239,24 @@ public final class FaultsTest {
         askedAt("total 1234^5", 1);
         askedAt("total 5^is 1", 1);
         askedAt("total is ^;", 1);
-        asked("total is 9999", 0, -1);
-        asked("total is(1)*2", 0, -1);
-        asked("first is number=1 or[all]", 0, -1);
+        askedAt("total is 9999", 0);
+        askedAt("total is(1)*2", 0);
+        askedAt("first is number=1 or[all]", 0);
         askedAt("often is ^all", 1);
         askedAt("^Total 5", 1);
     }
 
     private static void questionNesting() {
-        asked("total is is is is is is 0", 0, -1);
+        askedAt("total is is is is is is 0", 0);
         askedAt("total is is is is is is ^is 0", 4);
         askedAt("total ((((((^(1", 4);
-        asked("total is is is 0+is is is is is is 1", 0, -1);
-        asked("first not not [is is (1)=1]", 0, -1);
+        askedAt("total is is is 0+is is is is is is 1", 0);
+        askedAt("first not not [is is (1)=1]", 0);
         askedAt("first not not [is is (^(1))=1]", 4);
         askedAt("first not not [is is (^is 1)=1]", 4);
         askedAt("first not not [is is min(^is 1", 4);
         askedAt("first not not [is is is min^(1,2)=1]", 4);
-        asked("first not not [is is is 1+is is is 2=is is is 3]", 0, -1);
-        asked("first not not [is is 1+(is is 2)=1]", 0, -1);
+        askedAt("first not not [is is is 1+is is is 2=is is is 3]", 0);
+        askedAt("first not not [is is 1+(is is 2)=1]", 0);
     }
 }

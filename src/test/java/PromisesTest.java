@@ -204,7 +204,7 @@ public final class PromisesTest {
     /** Texts that fill the tape, and many of them. */
     private static void longTexts() {
         MendedThings x = Kit.of("thing a worth 1 use 2 frail 3;");
-        for (int k = 0; k < 8; k++) {
+        for (int k = 0; k < 2; k++) {
             due("a question of 1600 bytes", Kit.ask(x, "total " + "1+".repeat(796) + "1 "), 797);
             due("and a test", Kit.ask(x, "often " + "[1=1]or ".repeat(198) + "all" + " ".repeat(7)), 1);
         }

@@ -4,8 +4,9 @@ import java.util.Random;
 
 /** Random runs of calls, each call made of the class and of Model: the answers must be alike, and none may throw. */
 public final class RandomRunsTest {
-    private static final int RUNS = 400;
-    private static final int CALLS = 400;
+    private static final int RUNS = 1600;
+    /** A call more may need a text of 80 feeds and an end ahead of it, two asks of its fault behind it. */
+    private static final int CALLS = 512 - 85;
     private static final String[] CALLED = {"fault", "has", "letter", "thing", "mender", "takes", "fine", "trial", "kept", "later",
         "breaks", "house", "gain", "row", "parts", "lawed", "see", "tells", "strike", "mend", "forge", "days", "chance", "undo",
         "seed", "image", "octet", "status", "strike", "mend", "strike", "mend", "forge", "later", "house", "row", "parts"};
@@ -15,6 +16,7 @@ public final class RandomRunsTest {
     private final Model model = new Model();
     private final String name;
     private String lastText = "";
+    private int made = 0;
 
     private RandomRunsTest(int run) {
         random = new Random(run);
@@ -30,7 +32,7 @@ public final class RandomRunsTest {
     }
 
     private void go() throws Exception {
-        for (int k = 0; k < CALLS; k++) {
+        for (int k = 0; made < CALLS; k++) {
             int dice = random.nextInt(100);
             if (k == 0 || dice < 2) {
                 text(new Texts(random).island());
@@ -103,9 +105,11 @@ public final class RandomRunsTest {
             for (int k = 0; k < 20; k++) {
                 five[k / 4] = five[k / 4] << 8 | (at + k < bytes.length ? bytes[at + k] & 255 : 32);
             }
+            made++;
             Kit.due(name + " feed", mended.feed(five[0], five[1], five[2], five[3], five[4]),
                 model.feed(five[0], five[1], five[2], five[3], five[4]));
         }
+        made++;
         Kit.due(name + " end", mended.end(bytes.length), model.end(bytes.length));
     }
 
@@ -118,6 +122,7 @@ public final class RandomRunsTest {
     }
 
     private void image() {
+        made++;
         int things = Math.max(0, mended.has(0) - (random.nextInt(30) == 0 ? 1 : 0));
         int[] row = new int[2 + 5 * things];
         int day = random.nextInt(3) == 0 ? 940 + random.nextInt(61) : random.nextInt(300);
@@ -159,6 +164,7 @@ public final class RandomRunsTest {
     private void call(String called, Integer... values) throws Exception {
         Class<?>[] types = new Class<?>[values.length];
         Arrays.fill(types, int.class);
+        made++;
         Object got = MendedThings.class.getMethod(called, types).invoke(mended, (Object[]) values);
         Object want = Model.class.getDeclaredMethod(called, types).invoke(model, (Object[]) values);
         Kit.due(name + " " + called + Arrays.toString(values) + (called.equals("has") ? "" : " text " + lastText), plain(got), plain(want));
