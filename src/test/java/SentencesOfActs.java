@@ -166,6 +166,7 @@ final class SentencesOfActs {
             Kit.due("undo", x.undo(), true);
             Kit.dueAll("as ahead of ACT " + k, x, ahead[k]);
         }
+        keptIsUndone();
         MendedThings y = Kit.of(text);
         y.chance(10);
         y.undo();
@@ -177,6 +178,19 @@ final class SentencesOfActs {
             Kit.due("the seed stays", x.chance(1), cats);
             Kit.due("the seed stays", y.chance(1), cats);
         }
+    }
+
+    /** What an act pushed out of the last 50 is told again behind undo(). */
+    private static void keptIsUndone() {
+        MendedThings x = Kit.of(A + Kit.thing("b", 1, 1, 2) + Kit.mender("m", 1, 24) + Kit.mender("n", 1, 24) + "takes 24;falls day > 0;");
+        x.strike(0);
+        x.mend(0, 1);
+        x.days(1);
+        String ahead = Kit.all(x);
+        x.days(100);
+        Kit.due("50", x.has(9), 50);
+        x.undo();
+        Kit.dueAll("as ahead of 100 days", x, ahead);
     }
 
     @Says(at = "Promise 28", text = "false, refused (4), when none can be.")
@@ -250,7 +264,10 @@ final class SentencesOfActs {
         Kit.due("without things", Kit.ask(none, "first all"), NONE);
         Kit.due("without things", Kit.ask(none, "last all"), NONE);
         Kit.due("without things", Kit.ask(none, "often all"), 0);
-        Kit.due("of 1600 bytes", Kit.ask(x, "least " + "1+".repeat(796) + "11"), 807);
+        for (int k = 0; k < 3; k++) {
+            Kit.due("of 1600 bytes", Kit.ask(x, "least " + "1+".repeat(796) + "11"), 807);
+        }
+        Kit.due("of 1600 bytes, a word at the end", Kit.ask(x, " ".repeat(1591) + "often all"), 8);
     }
 
     @Says(at = "Promise 30", text = "NOTHING with a FAULT.")

@@ -119,7 +119,9 @@ final class SentencesOfAnswers {
         Kit.due("the tape goes", x.end(1), false);
         Kit.due("of 80", Kit.island(x, "cat 1;".repeat(80)), 80);
         Kit.due("an empty one again", x.island(), 0);
-        Kit.due("of 1600 bytes", Kit.island(x, "first " + "1+".repeat(796) + "1;"), 1);
+        for (int k = 0; k < 4; k++) {
+            Kit.due("of 1600 bytes", Kit.island(x, "first " + "1+".repeat(796) + "1;"), 1);
+        }
         Kit.island(x, "x");
         Kit.due("the tape goes with a fault, too", x.end(1), false);
     }
@@ -170,7 +172,22 @@ final class SentencesOfAnswers {
         for (int k = 0; k < 12; k++) {
             Kit.due("the seed stays", x.chance(1), y.chance(1));
         }
-        // nothing of the island ahead is left
+        // nothing of the islands ahead is left
+        String full = Kit.things(8) + Kit.mender("m", 1, 9) + Kit.mender("n", 1, 9) + "trial r is all;trial s is all;stands not all;"
+            + "falls all;takes 9;fine 8;first 0-use;cat 100;";
+        Kit.due("a full one", Kit.island(x, full), 18);
+        Kit.due("a full one", Kit.island(x, full), 18);
+        Kit.due("a plain one", Kit.island(x, A + Kit.thing("b", 1, 2, 1) + M), 3);
+        Kit.due("its trials", x.has(2), 0);
+        Kit.due("its menders", x.has(1), 1);
+        Kit.due("its takes", x.takes(0, 0), 4);
+        Kit.due("its fine", x.fine(0, 0), 7);
+        Kit.due("its falls and cat", x.chance(50) + x.has(4), 0);
+        x.strike(0);
+        x.strike(1);
+        x.days(1);
+        Kit.due("its first", x.thing(1, 3), 2);
+        Kit.due("its stands", x.has(8), 2);
         Kit.due("an empty one", x.island(), 0);
         for (int what = 0; what <= 10; what++) {
             Kit.due("has " + what, x.has(what), 0);

@@ -1,3 +1,6 @@
+import java.util.Arrays;
+import java.util.Comparator;
+
 /** Sentences on boundary cases of what to break, to mend, to try, to look at, and of what is ahead (Terms III). */
 final class SentencesOfPlans {
     private static final int NONE = MendedThings.NONE;
@@ -141,11 +144,11 @@ final class SentencesOfPlans {
         + " ahead of it take")
     static void rowByTheFirstMender() {
         MendedThings x = Kit.of(Kit.thing("a", 90, 2, 1) + Kit.thing("b", 99, 99, 1) + Kit.mender("m", 0, 1) + Kit.mender("n", 9, 24)
-            + "takes worth * (1 + skill) + 9;");
+            + "takes worth - 5 * skill;");
         x.strike(0);
-        Kit.due("99 hours, though he has one a day", x.row(NONE), 2 * 99);
+        Kit.due("90 hours, though he has one a day", x.row(NONE), 2 * 90);
         x.strike(1);
-        Kit.due("b, then a behind both", x.row(NONE), 99 * 99 + 2 * 198);
+        Kit.due("b, then a behind both", x.row(NONE), 99 * 99 + 2 * 189);
         Kit.due("b", x.row(0), 1);
         Kit.due("a", x.row(1), 0);
     }
@@ -174,6 +177,47 @@ final class SentencesOfPlans {
         x.strike(0);
         Kit.due("cost 0", x.row(NONE), 0);
         Kit.due("by numbers", x.row(0), 0);
+        anyOrder(0, new int[6]);
+    }
+
+    /** Each order of six is the best one of some six things: the longer, the later; and then with two alike each time. */
+    private static void anyOrder(int count, int[] order) {
+        if (count == 6) {
+            bestOrder(order, 1);
+            bestOrder(order, 2);
+            return;
+        }
+        for (int t = 0; t < 6; t++) {
+            boolean there = false;
+            for (int k = 0; k < count; k++) {
+                there |= order[k] == t;
+            }
+            if (!there) {
+                order[count] = t;
+                anyOrder(count + 1, order);
+            }
+        }
+    }
+
+    private static void bestOrder(int[] order, int alike) {
+        Integer[] want = new Integer[6];
+        int[] hours = new int[6];
+        for (int k = 0; k < 6; k++) {
+            want[k] = order[k];
+            hours[order[k]] = 1 + k / alike;
+        }
+        Arrays.sort(want, Comparator.comparing((Integer t) -> hours[t]).thenComparing(t -> t));
+        StringBuilder text = new StringBuilder("takes worth;" + M);
+        for (int t = 0; t < 6; t++) {
+            text.append(Kit.thing(String.valueOf((char) ('a' + t)), hours[t], 3, 1));
+        }
+        MendedThings x = Kit.of(text.toString());
+        for (int t = 0; t < 6; t++) {
+            x.strike(t);
+        }
+        for (int k = 0; k < 6; k++) {
+            Kit.due(Arrays.toString(want) + " by " + Arrays.toString(hours) + ", place " + k, x.row(k), want[k]);
+        }
     }
 
     // ---- trials, laws
@@ -262,6 +306,9 @@ final class SentencesOfPlans {
             mended(x, t);
         }
         Kit.due("all eight", x.lawed(1, 1), 255);
+        Kit.due("none was mended twice", x.lawed(2, 1), 0);
+        mended(x, 7);
+        Kit.due("the eighth was", x.lawed(2, 1), 128);
     }
 
     // ---- ahead
@@ -278,6 +325,8 @@ final class SentencesOfPlans {
             Kit.due("DAY " + day + ", the most", x.later(most, 3), 0);
             Kit.due("DAY " + day + ", one more", x.later(most + 1, 3), NONE);
         }
+        x = Kit.of(Kit.thing("a", 1, 1, 7) + "falls day = 9 * frail - 5;");
+        Kit.due("as they come: DAY 58 is the 59th", x.breaks(0), 59);
         x = Kit.of(Kit.thing("a", 1, 1, 1) + "falls day = 998;");
         Kit.toDay(x, 939);
         Kit.due("in the 60th", x.breaks(0), 60);
@@ -322,6 +371,12 @@ final class SentencesOfPlans {
         x = Kit.of(Kit.thing("a", 1, 1, 5) + M + "falls day = 0;");
         Kit.due("all can be", Kit.see(x, 0, 1), 1023);
         Kit.due("its own number stays", x.thing(0, 2), 5);
+        x = Kit.of(Kit.thing("a", 1, 1, 5) + M + "falls day = frail;");
+        Kit.see(x, 0, 1);
+        Kit.due("what is ahead stays, too", x.breaks(0), 6);
+        x.days(1);
+        x.undo();
+        Kit.due("and what is undone", x.breaks(0), 6);
         x = Kit.of(Kit.thing("a", 1, 1, 5) + Kit.thing("b", 1, 1, 5) + M + "falls day = frail;");
         Kit.due("of b", Kit.see(x, 1, 1), 1);
         x = Kit.of(Kit.thing("a", 1, 1, 5) + M + "falls day = 29 + frail;");

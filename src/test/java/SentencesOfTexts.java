@@ -85,6 +85,14 @@ final class SentencesOfTexts {
         Kit.due("the last one, 0", Kit.of(A + "cat 100;cat 0;").chance(20), 0);
         Kit.due("the last one, 100", Kit.of(A + "cat 0;cat 100;").chance(20), 20);
         Kit.due("without", Kit.of(A).chance(20), 0);
+        MendedThings x = Kit.of(A + "cat 100;");
+        for (int k = 0; k < 3; k++) {
+            Kit.island(x, A);
+            Kit.due("without, behind one with", x.chance(20), 0);
+            Kit.island(x, A + "cat 100;");
+            Kit.due("with, behind one without", x.chance(20), 20);
+            Kit.island(x, A + "cat 100");
+        }
     }
 
     @Says(at = "Terms I", text = "N (1 to 4 digits)")
@@ -179,6 +187,23 @@ final class SentencesOfTexts {
         sum("0-1000*1000-1+1", -999999);
         sum("1000*1000-(0-1000*1000)", 1000000);
         holds("9999*9999=1000*1000", true);
+    }
+
+    @Says(at = "Terms I", text = "min ( SUM , SUM ) ; max ( SUM , SUM )")
+    static void minMax() {
+        sum("min(3,4)", 3);
+        sum("min(4,3)", 3);
+        sum("min(3,3)", 3);
+        sum("min(0,0-1)", -1);
+        sum("max(3,4)", 4);
+        sum("max(4,3)", 4);
+        sum("max(0,0-1)", 0);
+        sum("max(0-1000*1000,0-999*1000)", -999000);
+        sum("min(worth,max(1,2)+3)*2", 10);
+        Kit.faultAt("takes min(1^);", 1);
+        Kit.faultAt("takes min(1,2^,3);", 1);
+        Kit.faultAt("takes max(^);", 1);
+        Kit.faultAt("takes max ^1;", 1);
     }
 
     @Says(at = "Terms I", text = "Without: stands is mends > 0, falls never, takes is 4, fine is skill, first is use.")
@@ -287,6 +312,10 @@ final class SentencesOfTexts {
         Kit.faultAt("cat ^:5;", 1);
         Kit.faultAt("^\u00ff", 1);
         Kit.faultAt("^\0", 1);
+        // at the end of a tape that is full
+        for (String word : new String[] {"t", "thin", "things", "5", "!"}) {
+            Kit.faultAt(" ".repeat(1600 - word.length()) + "^" + word, 1);
+        }
     }
 
     @Says(at = "Terms I", text = "where a NAME is asked, an OWN WORD so, a 7th letter at itself")
@@ -313,6 +342,10 @@ final class SentencesOfTexts {
         Kit.faultAt("takes 1234^5;", 1);
         Kit.faultAt("falls 1=1234^5;", 1);
         Kit.faultAt("takes min(1,1234^567);", 1);
+        Kit.faultAt("takes 1+1234^5;", 1);
+        Kit.faultAt("takes 1*1234^5;", 1);
+        Kit.faultAt("trial r is all or 1234^5=1;", 1);
+        Kit.faultAt("trial r is all and 1234^5=1;", 1);
         Kit.whole("cat 0099;takes 1234;", 2);
     }
 
@@ -324,6 +357,7 @@ final class SentencesOfTexts {
             "takes min", "takes min(", "takes min(1", "takes min(1,", "takes min(1,2", "fine", "first", "cat", "cat 5", "cat 5;cat  "};
         for (String start : starts) {
             Kit.faultAt(start + "^", 1);
+            Kit.faultAt(" ".repeat(1600 - start.length()) + start + "^", 1);
         }
     }
 
@@ -371,6 +405,20 @@ final class SentencesOfTexts {
         Kit.faultAt("falls not not not not not not 1=^(1);", 4);
         Kit.whole("falls not not not not not 1=(1);", 1);
         Kit.whole("falls not not not not not not 1=1 and (1)=1;", 1);
+        // in each statement, and behind each sign
+        for (String rule : new String[] {"trial r is", "stands", "falls"}) {
+            Kit.whole(rule + " [[[[[[all]]]]]];", 1);
+            Kit.faultAt(rule + " [[[[[[^[all]]]]]]];", 4);
+            Kit.faultAt(rule + " all or [[[[[[^[all]]]]]]];", 4);
+            Kit.faultAt(rule + " all and not not not not not not ^not all;", 4);
+            Kit.faultAt(rule + " 1<((((((^(1)))))));", 4);
+        }
+        for (String rule : new String[] {"takes", "fine", "first"}) {
+            Kit.whole(rule + " ((((((1))))));", 1);
+            Kit.faultAt(rule + " ((((((^(1)))))));", 4);
+            Kit.faultAt(rule + " 1+((((((^(1)))))));", 4);
+            Kit.faultAt(rule + " 1*((((((^(1)))))));", 4);
+        }
     }
 
     @Says(at = "Terms I", text = "5 one too many of a kind (a second stands, falls, takes, fine, first, too), an 81st STATEMENT (whatever stands"
