@@ -321,6 +321,24 @@ final class SentencesOfAnswers {
         Kit.due("no trial", x.letter(2, 0, 0), NONE);
     }
 
+    @Says(at = "Promise 8", text = "Of a THING: 0 worth, 1 use, 2 frail, 3 what it is (0 .. 2), 4 how often it broke, 5 was mended, 6 glue, 7 whether it is"
+        + " FORGED, 8 whether it STANDS.")
+    static void thingsAtTheEdges() {
+        String edges = Kit.thing("a", 99, 98, 9) + Kit.thing("b", 0, 0, 0) + M;
+        MendedThings x = Kit.of(edges);
+        Kit.on(x, Kit.sealed(0, 0, 2, 99, 98, 97, 1, 1, 0, 0, 0, 0));
+        int[][] want = {{99, 98, 9, 2, 99, 98, 97, 1, 1}, {0, 0, 0, 1, 0, 0, 0, 0, 0}};
+        for (int t = 0; t < 2; t++) {
+            for (int what = 0; what <= 8; what++) {
+                Kit.due("thing " + t + " " + what, x.thing(t, what), want[t][what]);
+            }
+        }
+        x = Kit.of(edges);
+        for (int what = 3; what <= 8; what++) {
+            Kit.due("at first " + what, x.thing(0, what), 0);
+        }
+    }
+
     @Says(at = "Promise 8", text = "NONE when there is none such, or for others.")
     static void noSuchThing() {
         MendedThings x = Kit.of(Kit.things(8));

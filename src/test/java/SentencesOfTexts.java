@@ -67,6 +67,14 @@ final class SentencesOfTexts {
         Kit.whole(five, 5);
         Kit.due("five", Kit.of(five).has(2), 5);
         Kit.faultAt(five + "^trial f is all;", 5);
+        // the fifth is not mixed up with what stands by itself
+        for (String stands : new String[] {"stands all;", "stands not all;"}) {
+            MendedThings x = Kit.of(five.replace("e is all", "e is not all") + stands + Kit.thing("f", 1, 1, 1));
+            x.forge(0);
+            Kit.due("the fifth", x.trial(4, 0), 0);
+            Kit.due("the fourth", x.trial(3, 0), 1);
+            Kit.due(stands, x.thing(0, 8), stands.contains("not") ? 0 : 1);
+        }
     }
 
     @Says(at = "Terms I", text = "stands TEST, falls TEST, takes SUM, fine SUM, first SUM (one each)")
@@ -93,6 +101,21 @@ final class SentencesOfTexts {
             Kit.due("with, behind one without", x.chance(20), 20);
             Kit.island(x, A + "cat 100");
         }
+    }
+
+    @Says(at = "Terms I", text = "SUM SIGN SUM, SIGN < or > or = .")
+    static void signs() {
+        String[] tests = {"1<2", "2<2", "3<2", "1>2", "2>2", "3>2", "1=2", "2=2", "3=2", "0-1<0", "0>0-1", "0-1=0-1"};
+        boolean[] want = {true, false, false, false, false, true, false, true, false, true, true, true};
+        for (int k = 0; k < tests.length; k++) {
+            holds(tests[k], want[k]);
+        }
+        Kit.faultAt("falls 1<^=2;", 1);
+        Kit.faultAt("falls 1=^=2;", 1);
+        Kit.faultAt("falls 1^!=2;", 1);
+        Kit.faultAt("falls 1<2^<3;", 1);
+        Kit.faultAt("falls 1^;", 1);
+        Kit.faultAt("falls 1=^;", 1);
     }
 
     @Says(at = "Terms I", text = "N (1 to 4 digits)")
