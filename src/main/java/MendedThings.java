@@ -258,6 +258,8 @@ public final class MendedThings {
         }
     }
 
+    // ---- ahead
+
     public int later(int n, int what) {
         if (n < 0 || n > daysAhead() || what < 0 || what > 3) {
             return NONE;
@@ -288,6 +290,8 @@ public final class MendedThings {
         }
         return NONE;
     }
+
+    // ---- what to break, to mend
 
     public int house(int use, int what) {
         if (use < 0 || use > MOST_USE || what < 0 || what > 1 || now.land.menders == 0) {
@@ -337,6 +341,8 @@ public final class MendedThings {
         return what == 0 ? now.land.useOf(byLaw) : told ^ byLaw;
     }
 
+    // ---- how frail
+
     public int see(int thing) {
         int seen = tape.seenDays();
         int last = tape.lastByte();
@@ -356,6 +362,8 @@ public final class MendedThings {
         plans.findTelling();
         return what == 0 ? plans.tellingDay : plans.tellingLeft;
     }
+
+    // ---- acts
 
     public boolean strike(int thing) {
         if (!isThing(thing) || now.what[thing] == BROKEN) {
@@ -431,6 +439,8 @@ public final class MendedThings {
         return true;
     }
 
+    // ---- questions
+
     public long ask() {
         boolean read = reader.readQuestion(asked);
         noteFault();
@@ -440,6 +450,8 @@ public final class MendedThings {
         }
         return reader.asksTest() ? answerTest(reader.question) : answerSum(reader.question);
     }
+
+    // ---- images, refusals
 
     public int image() {
         int size = 0;
@@ -1503,10 +1515,10 @@ public final class MendedThings {
             beginWork(state);
             for (int k = 0; k < state.land.things; k++) {
                 int thing = nextToMend(state);
-                if (thing == NONE) {
+                int mender = thing == NONE ? NONE : firstWithHours(state, thing);
+                if (mender == NONE) {
                     break;
                 }
-                int mender = firstWithHours(state, thing);
                 left[mender] -= need[thing * MOST_MENDERS + mender];
                 mendThing(state, thing, mender);
             }

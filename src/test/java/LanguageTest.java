@@ -8,6 +8,7 @@ import java.util.Arrays;
 import java.util.List;
 import java.util.Set;
 import java.util.TreeSet;
+import java.util.regex.Matcher;
 import java.util.regex.Pattern;
 
 /** The rules of LANGUAGE.md that can be looked up in the source or the compiled classes, and the face of the document. */
@@ -22,6 +23,7 @@ public final class LanguageTest {
 
     public static void main(String[] args) throws IOException {
         face();
+        headings();
         classes();
         words();
         methodLengths();
@@ -53,6 +55,25 @@ public final class LanguageTest {
         Kit.due("final", Modifier.isFinal(MendedThings.class.getModifiers()), true);
         Kit.due("NONE", MendedThings.NONE, -1);
         Kit.due("NOTHING", MendedThings.NOTHING, -1000000000000000L);
+    }
+
+    /** "Ahead of the calls .. the interface says: ---- ..": each of these calls has that line as the last such one ahead of it. */
+    private static void headings() throws IOException {
+        String source = Files.readString(SOURCE);
+        Matcher told = Pattern.compile("Ahead of the calls (`.*`) the interface says: (---- .*)\\.")
+            .matcher(Files.readString(Path.of("../shared/DOC.md")));
+        int count = 0;
+        while (told.find()) {
+            count++;
+            for (String call : told.group(1).replace("`", "").split(", ")) {
+                Matcher found = Pattern.compile("    public \\w+ " + call + "\\(").matcher(source);
+                Kit.due(call + " is there", found.find(), true);
+                String ahead = source.substring(0, found.start());
+                int at = ahead.lastIndexOf("    // ---- ");
+                Kit.due(told.group(2) + " is ahead of " + call, at >= 0 && ahead.startsWith("// " + told.group(2) + "\n", at + 4), true);
+            }
+        }
+        Kit.due("headings", count, 6);
     }
 
     private static void classes() {

@@ -246,7 +246,8 @@ final class SentencesOfAnswers {
         }
     }
 
-    @Says(at = "Promise 6", text = "0 THINGS, 1 MENDERS, 2 TRIALS, 3 DAY, 4 BROKEN, 5 MENDED, 6 that STAND, 7 FORGED, 8 USE that STANDS")
+    @Says(at = "Promise 6", text = "How many there are: 0 THINGS, 1 MENDERS, 2 TRIALS, 3 DAY, 4 BROKEN, 5 MENDED, 6 that STAND, 7 FORGED, 8 USE that"
+        + " STANDS")
     static void hasOfAll() {
         StringBuilder text = new StringBuilder("stands all;");
         for (int k = 0; k < 8; k++) {

@@ -155,7 +155,7 @@ final class SentencesOfDays {
 
     // ---- Terms II: a day
 
-    @Says(at = "Terms II", text = "FIRST each THING that is not BROKEN, for which the TEST of falls holds, breaks (all by what is ahead).")
+    @Says(at = "Terms II", text = "A DAY: FIRST each THING that is not BROKEN, for which the TEST of falls holds, breaks (all by what is ahead).")
     static void falling() {
         MendedThings x = Kit.of(Kit.things(4) + M.replace("hours 4", "hours 1") + "falls all;");
         x.strike(0);
@@ -320,7 +320,7 @@ final class SentencesOfDays {
         Kit.due("broken", x.forge(0), false);
     }
 
-    @Says(at = "Terms II", text = "ahead of each a DRAW of 100: below cat")
+    @Says(at = "Terms II", text = "DAYS by the seed: ahead of each a DRAW of 100: below cat")
     static void belowCat() {
         // the seed 1 draws 18 at first
         Kit.due("18 is below 19", Kit.of(A + "cat 19;").chance(1), 1);

@@ -273,7 +273,8 @@ final class SentencesOfPlans {
         Kit.due("the fifth alone", x.parts(), 16);
     }
 
-    @Says(at = "Terms III", text = "by law 0 it STANDS as told, by law 1 if it is MENDED, by law 2 if it is MENDED, was mended twice, at least")
+    @Says(at = "Terms III", text = "LAWS compared: by law 0 it STANDS as told, by law 1 if it is MENDED, by law 2 if it is MENDED, was mended twice,"
+        + " at least")
     static void laws() {
         MendedThings x = Kit.of(Kit.thing("a", 1, 1, 1) + Kit.thing("b", 1, 2, 1) + Kit.thing("c", 1, 4, 1) + Kit.thing("d", 1, 8, 1)
             + Kit.thing("e", 1, 16, 1) + Kit.thing("f", 1, 32, 1) + M + "stands mends = 3;");

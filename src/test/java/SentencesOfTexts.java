@@ -20,7 +20,7 @@ final class SentencesOfTexts {
 
     // ---- Terms I: the statements
 
-    @Says(at = "Terms I", text = "{ STATEMENT ; } (80 at most)")
+    @Says(at = "Terms I", text = "AN ISLAND is a text: { STATEMENT ; } (80 at most)")
     static void statements() {
         Kit.whole("", 0);
         Kit.whole("cat 1;", 1);
@@ -118,7 +118,7 @@ final class SentencesOfTexts {
         Kit.faultAt("falls 1=^;", 1);
     }
 
-    @Says(at = "Terms I", text = "N (1 to 4 digits)")
+    @Says(at = "Terms I", text = "PART: N (1 to 4 digits)")
     static void digits() {
         sum("0", 0);
         sum("9", 9);
@@ -463,7 +463,8 @@ final class SentencesOfTexts {
 
     // ---- Terms IV: questions
 
-    @Says(at = "Terms IV", text = "first TEST, last TEST (the first, the last THING for which it holds), often TEST (for how many)")
+    @Says(at = "Terms IV", text = "A QUESTION is a text, of all THINGS: first TEST, last TEST (the first, the last THING for which it holds), often TEST"
+        + " (for how many)")
     static void firstLastOften() {
         MendedThings x = Kit.of(Kit.things(8));
         Kit.due("first of all", Kit.ask(x, "first all"), 0);
@@ -493,7 +494,7 @@ final class SentencesOfTexts {
         Kit.due("below -10 to the 6, together", Kit.ask(x, "total 0-1000*1000"), -3000000);
     }
 
-    @Says(at = "Terms IV", text = "PART: N; number; worth; use; frail; breaks; mends; glue; forged; day; is PART")
+    @Says(at = "Terms IV", text = "TEST, SUM as in I, but PART: N; number; worth; use; frail; breaks; mends; glue; forged; day; is PART")
     static void questionParts() {
         for (String part : new String[] {"0", "9999", "number", "worth", "use", "frail", "breaks", "mends", "glue", "forged", "day", "is 0"}) {
             Kit.askFaultAt("total " + part, 0);
@@ -526,7 +527,7 @@ final class SentencesOfTexts {
         Kit.due("no sixth", Kit.ask(x, "total is 5"), 0);
     }
 
-    @Says(at = "Terms IV", text = "1 as in I (an unknown word at its first byte; what stands behind it, too)")
+    @Says(at = "Terms IV", text = "Its FAULTS: 1 as in I (an unknown word at its first byte; what stands behind it, too)")
     static void questionFaults() {
         Kit.askFaultAt("^", 1);
         Kit.askFaultAt(" \n^", 1);

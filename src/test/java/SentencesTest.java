@@ -8,7 +8,7 @@ import java.util.TreeSet;
 /** Runs the tests that are marked with the sentence of the document that they are of, each sentence with its own. */
 public final class SentencesTest {
     private static final Class<?>[] TESTS = {SentencesOfTexts.class, SentencesOfDays.class, SentencesOfPlans.class,
-        SentencesOfAnswers.class, SentencesOfActs.class};
+        SentencesOfAnswers.class, SentencesOfActs.class, SentencesOfRest.class};
 
     public static void main(String[] args) throws IOException, ReflectiveOperationException {
         Document document = new Document();
@@ -23,12 +23,15 @@ public final class SentencesTest {
                     run(document, test, says);
                     Kit.due("has a test of its own", sentences.add(says.at() + says.text()), true);
                     places.add(says.at());
+                    document.strikeOut(says.at(), says.text());
                 }
             }
         }
         Kit.head("");
         for (String place : document.placesOfPromises()) {
             Kit.due(place + " has a test", places.contains(place), true);
+            String left = document.leftOf(place);
+            Kit.due(place + " has no words without a test, but for: " + left, left.isEmpty(), true);
         }
         System.out.println(sentences.size() + " sentences");
         Kit.finish("SentencesTest");
